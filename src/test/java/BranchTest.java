@@ -123,7 +123,10 @@ public final class BranchTest {
         Checks.due("16: still completed", x.branch(0, 0), 3 + 16 * 3);
         Checks.due("9: 599 of the other", x.reply(0, 1, 599), 2);
         Checks.latest("9: the ACK first", x, Checks.message(0, 0, 1, ACK), Checks.message(0, 0, Checks.TO_CALLER, 300));
-        Checks.due("16: 599 cancels none", x.branch(0, 0), 3 + 16 * 3);
+        x = Checks.calling(1, 3, 4);
+        x.reply(0, 1, 180);
+        Checks.due("9: 599 while the other rings", x.reply(0, 0, 599), 1);
+        Checks.due("16: 599 cancels none", x.branch(0, 1), 2 + 16 * 4);
     }
 
     private static void failureOf600() {

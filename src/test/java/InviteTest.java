@@ -112,6 +112,10 @@ public final class InviteTest {
         Checks.latest("8: 503", x, Checks.message(0, 2, Checks.TO_CALLER, 503));
         Checks.due("15: not in use", x.server(2), 0);
         Checks.due("18: live", x.live(), 10);
+        Checks.register(x, 2, 1, 5, 5000, 0);
+        Checks.register(x, 2, 2, 5, 5000, 0);
+        Checks.due("8: thirteen are too many", x.invite(2, 2, 1, 0), 1);
+        Checks.due("15: not in use", x.server(2), 0);
         Checks.due("8: twelve are not", x.invite(3, 0, 1, 0), 2);
         Checks.due("18: live", x.live(), 12);
         Checks.due("8: thirteen, for a refusal", x.invite(2, 1, 0, 0), 1);

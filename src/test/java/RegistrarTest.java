@@ -226,6 +226,10 @@ public final class RegistrarTest {
         Checks.due("5: a removed one is added anew", Checks.register(x, 1, 3, 0, 0, 257), 200);
         Checks.due("5: its mark is forgotten", Checks.register(x, 1, 3, 5, 60, 256), 200);
         order("7: and it is the last now", x, 5, 3);
+        Checks.due("5: the last is removed", Checks.register(x, 1, 3, 5, 0, 257), 200);
+        order("7: the other is left", x, 5);
+        Checks.due("5: the only one is removed", Checks.register(x, 1, 5, 5, 0, 257), 200);
+        Checks.due("6: none is left", x.bindings(1), 0);
     }
 
     private static void orderOfBindings() {
