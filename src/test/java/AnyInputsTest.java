@@ -9,7 +9,7 @@ public final class AnyInputsTest {
 
     public static void main(String[] args) {
         Random random = new Random(20261115L);
-        for (int run = 0; run < 400; run++) {
+        for (int run = 0; run < 1500; run++) {
             run(random);
         }
         Checks.end();
@@ -17,13 +17,21 @@ public final class AnyInputsTest {
 
     private static void run(Random random) {
         ForkedInvites x = new ForkedInvites(any(random), random.nextInt());
-        for (int i = 0; i < 512; i++) {
-            int sent = x.sent();
-            int now = x.now();
-            step(x, random);
-            Checks.due("19: never less", x.sent() >= sent, true);
-            Checks.due("14: never less", x.now() >= now && x.now() - now <= 2000, true);
-            Checks.due("18: at most 12", x.live() >= 0 && x.live() <= 12, true);
+        int sent = 0;
+        int now = 0;
+        // Nothing is promised after the 512th call; a round has at most 8 * 4 calls and three looks.
+        for (int round = 0; round < 14; round++) {
+            for (int i = 0; i < 8; i++) {
+                step(x, random);
+            }
+            int sentLater = x.sent();
+            int nowLater = x.now();
+            int live = x.live();
+            Checks.due("19: never less", sentLater >= sent, true);
+            Checks.due("14: never less", nowLater >= now && nowLater - now <= 8 * 2000, true);
+            Checks.due("18: at most 12", live >= 0 && live <= 12, true);
+            sent = sentLater;
+            now = nowLater;
         }
     }
 

@@ -26,14 +26,14 @@ public final class LogTest {
     private static void manyMessages() {
         ForkedInvites x = Checks.calling(1, 3);
         // Each code goes to the caller, so that every message tells its own number.
-        for (int i = 0; i < 150; i++) {
+        for (int i = 0; i < 140; i++) {
             x.reply(0, 0, 101 + i % 99);
             int sent = 3 + i;
             Checks.due("19: sent", x.sent(), sent);
             Checks.due("20: the 64th, or none", x.message(63), sent < 64 ? NONE : sixtyFourth(i));
         }
         for (int k = 0; k < 64; k++) {
-            Checks.due("20: message(" + k + ")", x.message(k), Checks.message(0, 0, Checks.TO_CALLER, 101 + (149 - k) % 99));
+            Checks.due("20: message(" + k + ")", x.message(k), Checks.message(0, 0, Checks.TO_CALLER, 101 + (139 - k) % 99));
         }
         Checks.due("20: the 65th is kept no more", x.message(64), NONE);
     }
