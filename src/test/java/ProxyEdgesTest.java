@@ -13,6 +13,7 @@ public final class ProxyEdgesTest {
         inviteOfNoCall();
         inviteAgainWhileProceeding();
         inviteAgainWhileCompleted();
+        inviteAgainLeavesTheTimers();
         inviteAgainOtherwise();
         inviteWithHops();
         inviteOfUsers();
@@ -25,6 +26,9 @@ public final class ProxyEdgesTest {
         endedOnesAndTheTwelve();
         tooManySendsOnce();
         inviteBeginsOneToFour();
+        aCallUsedAgainBeginsAnew();
+        aCallUsedAgainWithFewerBranches();
+        aCallRefusedAgainHasNoBranches();
         replyAtTheBoundsOfCodes();
         replyAtTheBoundsOfBranches();
         replyCountsTheMessages();
@@ -89,6 +93,26 @@ public final class ProxyEdgesTest {
         Checks.latest(what, x, Checks.message(x.now(), 0, TO_CALLER, code));
         Checks.due(what + ": live as before", x.live(), live);
         Checks.due(what + ": the latest code", x.server(0) / 8, code);
+    }
+
+    private static void inviteAgainLeavesTheTimers() {
+        ForkedInvites x = Checks.calling(2, 3);
+        x.tick(3);
+        x.invite(0, 1, 1, 0);
+        Checks.due("13: before A", x.tick(2), 0);
+        Checks.due("13: A as it was set", x.tick(1), 1);
+        x.reply(0, 0, 486);
+        x.tick(3);
+        x.invite(0, 1, 1, 0);
+        Checks.due("13: before G", x.tick(2), 0);
+        Checks.due("13: G as it was set", x.tick(1), 1);
+        Checks.due("13: G twice that", x.tick(7), 0);
+        Checks.due("13: G twice that", x.tick(1), 1);
+        x.invite(0, 1, 1, 0);
+        x.tick(128 - 14 - 1);
+        Checks.due("15: before H", x.server(0), 2 + 8 * 486);
+        x.tick(1);
+        Checks.due("15: H as it was set", x.server(0), 0);
     }
 
     /** 8: "otherwise nothing. (0 then.)" */
@@ -318,6 +342,53 @@ public final class ProxyEdgesTest {
                 Checks.due("16: the greatest weight first", x.branch(2, k), 1 + 16 * contacts[count - 1 - k]);
             }
         }
+    }
+
+    /** 8: "A call not in use": one that ended is as one that never was. */
+    private static void aCallUsedAgainBeginsAnew() {
+        ForkedInvites x = Checks.calling(1, 3, 4);
+        x.reply(0, 0, 180);
+        x.cancel(0);
+        x.tick(200);
+        Checks.due("15: not in use", x.server(0), 0);
+        Checks.due("8: anew", x.invite(0, 1, 1, 0), 3);
+        Checks.due("15: anew", x.server(0), 1 + 8 * 100);
+        for (int k = 0; k < 2; k++) {
+            Checks.due("16: not marked", x.branch(0, k), 1 + 16 * (3 + k));
+            Checks.due("17: no result", x.result(0, k), 0);
+            Checks.due("10: no E", x.cancelled(0, k), false);
+            Checks.due("9: not cancelled", x.reply(0, k, 100), 0);
+        }
+        Checks.due("11: a CANCEL on each", x.cancel(0), 2);
+        Checks.due("9: an ACK, no answer yet", x.reply(0, 0, 487), 1);
+        Checks.due("9: an ACK and the answer", x.reply(0, 1, 486), 2);
+        Checks.due("15: the first that came now", x.server(0), 2 + 8 * 487);
+    }
+
+    private static void aCallUsedAgainWithFewerBranches() {
+        ForkedInvites x = Checks.calling(1, 1, 2, 3, 4);
+        x.reply(0, 3, 200);
+        x.tick(64);
+        Checks.register(x, 1, 1, 5, 0, 512);
+        Checks.register(x, 1, 4, 5, 0, 512);
+        Checks.due("8: two", x.invite(0, 1, 1, 0), 3);
+        Checks.due("16: the first", x.branch(0, 0), 1 + 16 * 2);
+        Checks.due("16: the second", x.branch(0, 1), 1 + 16 * 3);
+        Checks.due("16: no third", x.branch(0, 2), 0);
+        Checks.due("17: no fourth", x.result(0, 3), 0);
+        Checks.due("18: live", x.live(), 3);
+        x.reply(0, 1, 486);
+        Checks.due("9: the answer of two", x.reply(0, 0, 486), 2);
+    }
+
+    private static void aCallRefusedAgainHasNoBranches() {
+        ForkedInvites x = Checks.calling(1, 3, 4);
+        x.reply(0, 0, 200);
+        x.tick(64);
+        Checks.due("8: refused", x.invite(0, 1, 0, 0), 1);
+        Checks.due("16: no branch", x.branch(0, 0), 0);
+        Checks.due("9: no branch", x.reply(0, 0, 200), NONE);
+        Checks.due("18: live", x.live(), 1);
     }
 
     /** 9: "NONE .. when .. code is not 100 .. 699." */

@@ -41,6 +41,7 @@ public final class ProxyTermsTest {
         hundredIsNotTold();
         provisionalIsToldWhileTheServerProceeds();
         successInEachState();
+        lateCodesWithTheServerInEachState();
         successCancelsTheOthersOnce();
         failureInEachState();
         sixHundredCancelsTheOthers();
@@ -517,6 +518,38 @@ public final class ProxyTermsTest {
         return x;
     }
 
+    /** The same with a server that is not proceeding: the code is sent to the caller, and the server stays as it is. */
+    private static void lateCodesWithTheServerInEachState() {
+        for (int state = 2; state <= 5; state++) {
+            ForkedInvites x = serverIn(state);
+            int server = x.server(0);
+            int branch = x.branch(0, 0);
+            Checks.due("200, server in state " + state, x.reply(0, 0, 200), 1);
+            Checks.latest("200, server in state " + state, x, Checks.message(x.now(), 0, TO_CALLER, 200));
+            Checks.due("486, server in state " + state, x.reply(0, 0, 486), 1);
+            Checks.latest("486, server in state " + state, x, Checks.message(x.now(), 0, 0, ACK));
+            Checks.due("180, server in state " + state, x.reply(0, 0, 180), 0);
+            Checks.due("the server as it was", x.server(0), server);
+            Checks.due("the branch as it was", x.branch(0, 0), branch);
+            Checks.due("its result as it was", x.result(0, 0), 404);
+        }
+    }
+
+    /** A call whose server is in that state, and whose branch 0 is completed. */
+    private static ForkedInvites serverIn(int state) {
+        ForkedInvites x = Checks.calling(1, 3, 4);
+        x.reply(0, 0, 404);
+        x.reply(0, 1, state == 4 ? 200 : 404);
+        if (state == 3 || state == 5) {
+            x.ack(0);
+        }
+        if (state == 5) {
+            x.tick(8);
+        }
+        Checks.due("server in state " + state, x.server(0) % 8, state);
+        return x;
+    }
+
     /** "if the server is proceeding, it is answered, .. and the other branches that are calling or proceeding are cancelled, in their order". */
     private static void successCancelsTheOthersOnce() {
         ForkedInvites x = Checks.calling(1, OTHER_CONTACTS);
@@ -590,6 +623,13 @@ public final class ProxyTermsTest {
         x = Checks.calling(1, 3, 4);
         x.reply(0, 0, 200);
         Checks.due("nor by B: INVITEs alone", x.tick(64), 6);
+        Checks.due("all ended", x.live(), 0);
+        x = Checks.calling(1, 3, 4);
+        x.reply(0, 1, 100);
+        x.tick(1);
+        x.reply(0, 0, 200);
+        x.cancelled(0, 1);
+        Checks.due("nor by F", x.tick(64), 0);
         Checks.due("all ended", x.live(), 0);
     }
 }

@@ -34,7 +34,6 @@ public final class RefusedTest {
         ack();
         tick();
         looks();
-        looksAfterEverything();
         Checks.end();
     }
 
@@ -49,7 +48,7 @@ public final class RefusedTest {
     /** Were a scene not in the states that it tells of, what is asked in it would show less than it seems to. */
     private static void busyIsAsSaid() {
         ForkedInvites x = Twins.busy();
-        int[] branches = {1, 2 + 16 * 2, 3 + 16 * 4, 3 + 16 * 6};
+        int[] branches = {1 + 16 * 6, 2 + 16 * 2, 3 + 16 * 4, 3};
         for (int k = 0; k < 4; k++) {
             Checks.due("busy: branch " + k, x.branch(0, k), branches[k]);
         }
@@ -68,7 +67,7 @@ public final class RefusedTest {
 
     private static void lateIsAsSaid() {
         ForkedInvites x = Twins.late();
-        int[] branches = {2 + 8, 2 + 8 + 16 * 2, 1 + 8 + 16 * 4, 4 + 16 * 6};
+        int[] branches = {2 + 8 + 16 * 6, 2 + 8 + 16 * 2, 1 + 8 + 16 * 4, 4};
         for (int k = 0; k < 4; k++) {
             Checks.due("late: branch " + k, x.branch(0, k), branches[k]);
         }
@@ -156,11 +155,10 @@ public final class RefusedTest {
 
     /** What is answered 500 or 503 uses up the admission; so the twin uses up its own, by removing what is not there. */
     private static void onlyTheAdmission(String what, int want, Twins.Ask ask) {
-        ForkedInvites asked = Twins.busy();
-        ForkedInvites twin = Twins.busy();
-        Checks.due(what, ask.of(asked), want);
-        Checks.due("5: removing what is not there", twin.register(1, 9, 0, 0, 0), 200);
-        Twins.alike(what + " changes the admission alone", asked, twin);
+        Twins.Ask other = x -> x.register(1, 9, 0, 0, 0);
+        Checks.due(what, ask.of(Twins.busy()), want);
+        Checks.due("5: removing what is not there", other.of(Twins.busy()), 200);
+        Twins.alike(what + " changes the admission alone", () -> Twins.after(Twins::busy, ask), () -> Twins.after(Twins::busy, other));
     }
 
     private static void registerWithAnOldMark() {
@@ -268,7 +266,7 @@ public final class RefusedTest {
     /** Asks for everything that can be looked at, with indexes inside and outside. */
     private static long lookAtAll(ForkedInvites x) {
         long seen = x.now() + x.live() + x.sent();
-        int[] indexes = {LEAST, -1, 0, 1, 3, 4, 63, 64, MOST};
+        int[] indexes = {LEAST, -1, 0, 1, 3, 4, 64, MOST};
         for (int i : indexes) {
             seen += x.bindings(i) + x.server(i) + x.message(i);
             for (int k : new int[] {-1, 0, 1, 4}) {
@@ -282,9 +280,6 @@ public final class RefusedTest {
     private static void looks() {
         Twins.refused("6, 7, 14 to 20: looking", Twins::busy, 0, RefusedTest::lookAtAll);
         Twins.refused("6, 7, 14 to 20: looking, late", Twins::late, 0, RefusedTest::lookAtAll);
-    }
-
-    private static void looksAfterEverything() {
         Twins.refused("6, 7, 14 to 20: looking, after all ended", Twins::old, 0, RefusedTest::lookAtAll);
     }
 }

@@ -242,6 +242,9 @@ public final class RegistrarEdgesTest {
             Checks.register(x, 1, 3, 5, 60, mark);
             Checks.due("5: to change, mark " + m[0], Checks.register(x, 1, 3, 5, 80, m[0]), m[1]);
             Checks.due("7: ends", x.binding(1, 0), 3 + 16 * (m[1] == 200 ? 80 : 60));
+            int kept = m[1] == 200 ? m[0] : mark;
+            Checks.due("5: the mark that it has now", Checks.register(x, 1, 3, 5, 80, kept), 500);
+            Checks.due("5: the one after it", Checks.register(x, 1, 3, 5, 80, kept + 1), 200);
             x = new ForkedInvites(1, 5);
             Checks.register(x, 1, 3, 5, 60, mark);
             Checks.due("5: to remove, mark " + m[0], Checks.register(x, 1, 3, 5, 0, m[0]), m[1]);

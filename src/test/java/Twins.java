@@ -1,13 +1,14 @@
 /**
- * Shows that a call changed nothing, also where no look reaches (timers, admissions, counts, the state of
- * the nonces): of two objects with the same past, one gets the call, and then both must answer alike.
+ * Shows that a call changed nothing, also where no look reaches (timers, admissions, counts, marks, the state
+ * of the nonces): of two objects with the same past, one gets the call, and then both must answer alike.
  */
 final class Twins {
     static final int T1 = 2;
     static final int SECRET = 77;
     /** The counts that were used with the nonces of the users 0 .. 3; user 0 has no nonce. */
     static final int[] USED = {0, 9, 1, 0};
-    private static final int PROBE_MOST = 400;
+    private static final int[] WEIGHTS = {2, 7, 5, 10};
+    private static final int PROBE_MOST = 700;
 
     interface Scene {
         ForkedInvites make();
@@ -24,19 +25,29 @@ final class Twins {
     }
 
     static void refused(String what, Scene scene, long want, Ask ask) {
-        ForkedInvites asked = scene.make();
-        Checks.due(what, ask.of(asked), want);
-        alike(what + " changes nothing", asked, scene.make());
+        Checks.due(what, ask.of(scene.make()), want);
+        alike(what + " changes nothing", () -> after(scene, ask), scene);
     }
 
-    static void alike(String what, ForkedInvites one, ForkedInvites other) {
+    static ForkedInvites after(Scene scene, Ask ask) {
+        ForkedInvites x = scene.make();
+        ask.of(x);
+        return x;
+    }
+
+    static void alike(String what, Scene one, Scene other) {
+        // What a probe itself changes hides what was changed before; so there are three, each of which begins otherwise.
         Twins first = new Twins();
         Twins second = new Twins();
-        first.probe(one);
-        second.probe(other);
+        first.look(one.make());
+        second.look(other.make());
+        first.probeAdmissions(one.make());
+        second.probeAdmissions(other.make());
+        first.probeNoncesAndTimers(one.make());
+        second.probeNoncesAndTimers(other.make());
         Checks.due(what + ": how many answers", first.count, second.count);
         for (int i = 0; i < first.count; i++) {
-            Checks.due(what + ": answer " + i + " of the probe", first.answers[i], second.answers[i]);
+            Checks.due(what + ": answer " + i + " of the probes", first.answers[i], second.answers[i]);
         }
     }
 
@@ -74,7 +85,7 @@ final class Twins {
         return x;
     }
 
-    /** All nonces too old, all calls unused again. */
+    /** All nonces too old, all bindings ended, all calls unused again. */
     static ForkedInvites old() {
         ForkedInvites x = busy();
         x.tick(100 * T1);
@@ -90,7 +101,7 @@ final class Twins {
         }
         for (int i = 0; i < 4; i++) {
             login(x, 1, 5 + i);
-            x.register(1, 2 * i, 5, 700 + i, 256);
+            x.register(1, 2 * i, WEIGHTS[i], 700 + i, 256);
         }
         login(x, 1, USED[1]);
         login(x, 2, USED[2]);
@@ -99,7 +110,7 @@ final class Twins {
     }
 
     private static boolean login(ForkedInvites x, int u, int c) {
-        return x.login(u, c, Checks.digest(SECRET, nonce(u), c));
+        return x.login(u, c, Checks.digest(u == 0 ? 0 : SECRET, nonce(u), c));
     }
 
     /** What the seed 5 gives to the users 1, 2 and 3, in this order. */
@@ -120,23 +131,33 @@ final class Twins {
         note(answer ? 1 : 0);
     }
 
-    private void probe(ForkedInvites x) {
-        look(x);
+    /** Who is admitted now, with which secret and nonce one can be, and which marks the bindings have. */
+    private void probeAdmissions(ForkedInvites x) {
         for (int u = 0; u < 4; u++) {
-            note(x.register(u, 0, 1, 50, 9 * 256));
-            int c = USED[u];
-            note(x.login(u, c, Checks.digest(u == 0 ? 0 : SECRET, nonce(u), c)));
-            note(x.login(u, c + 1, Checks.digest(u == 0 ? 0 : SECRET, nonce(u), c + 1)));
-            note(x.login(u, c + 1, Checks.digest(u == 0 ? 0 : SECRET, nonce(u), c + 1)));
+            note(x.register(u, 9, 1, 0, 0));
+            note(x.register(u, 9, 1, 0, 0));
+        }
+        note(login(x, 0, 1));
+        for (int u = 1; u < 4; u++) {
+            for (int i = 0; i < 8; i++) {
+                note(login(x, u, USED[u] + 1 + i));
+                // Of each binding of user 1, the mark that is still too old, then the next one.
+                note(x.register(u, i / 2 * 2, i, 50 + i, 256 + i % 2));
+            }
+        }
+        look(x);
+    }
+
+    /** Which counts can be used, what the next nonce is, and what every timer does and when. */
+    private void probeNoncesAndTimers(ForkedInvites x) {
+        for (int u = 0; u < 4; u++) {
+            note(login(x, u, USED[u] + 1));
+            note(login(x, u, USED[u] + 1));
         }
         note(x.challenge(0));
-        for (int i = 0; i < 40; i++) {
-            note(x.tick(1));
-        }
-        note(x.cancelled(0, 0));
-        note(x.cancel(0));
-        for (int i = 0; i < 40; i++) {
-            note(x.tick(i < 20 ? 4 : 16));
+        for (int i = 0; i < 120; i++) {
+            note(x.tick(i < 40 ? 1 : i < 80 ? 8 : 2));
+            note(x.live());
         }
         look(x);
     }
