@@ -297,7 +297,8 @@ public final class ForkedInvites {
     }
 
     private static final class Timer {
-        static final int NEVER = Integer.MAX_VALUE;
+        // Greater than every tick that can come, so that the earliest of some timers is the least dueAt.
+        static final int NEVER = 0x7fffffff;
 
         private final Clock clock;
         private int span;
@@ -312,7 +313,11 @@ public final class ForkedInvites {
             dueAt = clock.now + ticks;
         }
 
-        void setToTwice(int most) {
+        void setToTwice() {
+            set(2 * span);
+        }
+
+        void setToTwiceButAtMost(int most) {
             set(Math.min(2 * span, most));
         }
 
@@ -582,7 +587,7 @@ public final class ForkedInvites {
         void runTimers() {
             if (timerG.isDue()) {
                 tell(latestCode);
-                timerG.setToTwice(8 * clock.t1);
+                timerG.setToTwiceButAtMost(8 * clock.t1);
             }
             if (timerH.isDue() || timerI.isDue() || timerL.isDue()) {
                 moveTo(ENDED);
@@ -714,7 +719,7 @@ public final class ForkedInvites {
             boolean wasOpen = isOpen();
             if (timerA.isDue()) {
                 log.add(call, number, INVITE);
-                timerA.setToTwice(Timer.NEVER);
+                timerA.setToTwice();
             }
             if (timerB.isDue()) {
                 timeOut();
@@ -727,7 +732,7 @@ public final class ForkedInvites {
             }
             if (timerE.isDue()) {
                 log.add(call, number, CANCEL);
-                timerE.setToTwice(8 * clock.t1);
+                timerE.setToTwiceButAtMost(8 * clock.t1);
             }
             if (timerF.isDue()) {
                 timeOut();
